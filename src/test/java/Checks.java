@@ -30,6 +30,11 @@ final class Checks {
         }
     }
 
+    void add(Checks other) {
+        checked += other.checked;
+        wrong += other.wrong;
+    }
+
     void end(String name) {
         System.out.println(name + ": " + checked + " checked, " + wrong + " wrong");
         if (wrong != 0 || checked == 0) {
