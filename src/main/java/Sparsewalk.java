@@ -1182,7 +1182,8 @@ public final class Sparsewalk {
             best = 0;
             above = 0;
             below = 1;
-            for (int places = 1; places < graph.allPlaces(); places++) {
+            // Either side of a cut has its share, and the one with less bits lacks the last place.
+            for (int places = 1; places <= graph.allPlaces() / 2; places++) {
                 int inside = sumInside(places);
                 int less = Math.min(inside, all - inside);
                 if (less > 0) {

@@ -1,10 +1,6 @@
-import java.util.NoSuchElementException;
-
 /** Counts what is not as due, and ends a test's run by it. */
 final class Checks {
-    interface Call {
-        Object answer();
-    }
+    private static final int MOST_PRINTED = 50;
 
     private int checked;
     private int wrong;
@@ -13,20 +9,9 @@ final class Checks {
         checked++;
         if (!want.equals(got)) {
             wrong++;
-            if (wrong <= 50) {
+            if (wrong <= MOST_PRINTED) {
                 System.out.println(call + " answered " + got + ", due is " + want);
             }
-        }
-    }
-
-    /** An exception's name counts as an answer, as the issues write it. */
-    static Object answerOf(Call call) {
-        try {
-            return call.answer();
-        } catch (IndexOutOfBoundsException | IllegalArgumentException | IllegalStateException
-                | UnsupportedOperationException | NoSuchElementException | ArithmeticException
-                | NullPointerException | ClassCastException e) {
-            return "throws." + e.getClass().getSimpleName();
         }
     }
 
