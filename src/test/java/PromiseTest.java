@@ -3,11 +3,11 @@ import java.util.List;
 
 /** Each promise by itself: ordinary calls, the edges that the document names, and wrong calls. */
 public final class PromiseTest {
-    private static final String BOUNDS = "throws.IndexOutOfBoundsException; ";
-    private static final String ARGUMENT = "throws.IllegalArgumentException; ";
-    private static final String OPERATION = "throws.UnsupportedOperationException; ";
-    private static final String ELEMENT = "throws.NoSuchElementException; ";
-    private static final String STATE = "throws.IllegalStateException; ";
+    private static final String BOUNDS = Runs.BOUNDS;
+    private static final String ARGUMENT = Runs.ARGUMENT;
+    private static final String OPERATION = Runs.OPERATION;
+    private static final String ELEMENT = Runs.ELEMENT;
+    private static final String STATE = Runs.STATE;
     private static final String TRIANGLE = "clear(3) = 4; makeRing(1) = 3; ";
     private static final String LINE =
             "setWeight(0, 1, 1) = 0; setWeight(1, 2, 1) = 0; setWeight(2, 3, 1) = 0; ";
@@ -110,14 +110,14 @@ public final class PromiseTest {
                 "setWeight(0, 1, 2) = 1; setWeight(2, 3, 4) = 0; undo() = 2; getWeight(2, 3) = 0;",
                 "undo() = 1; getWeight(0, 1) = 1; setWeight(0, 2, 1) = 0; undo() = 1; undo() = 0;",
                 "getWeight(0, 1) = 0; undo() = ", ELEMENT);
-        Sparsewalk walk = new Sparsewalk();
+        StringBuilder changes = new StringBuilder();
         for (int change = 0; change < 45; change++) {
-            walk.setWeight(0, 1 + change % 3, 1 + change / 3 % 4);
+            changes.append(Nets.weight(0, 1 + change % 3, 1 + change / 3 % 4));
         }
         for (int left = 29; left >= 0; left--) {
-            checks.due("5, " + left + " left", walk.undo(), left);
+            changes.append("undo() = ").append(left).append("; ");
         }
-        Runs.due(checks, "5, thirty at most", walk, "undo() = ", ELEMENT,
+        due("5, thirty at most", changes.toString(), "undo() = ", ELEMENT,
                 "getWeight(0, 1) = 1; getWeight(0, 2) = 1; getWeight(0, 3) = 1");
     }
 
@@ -195,27 +195,25 @@ public final class PromiseTest {
                 "nextTree() = 6; nextTree() = ", ELEMENT, "nextTree() = ", ELEMENT, "isSound() = true;",
                 "makeRing(1) = 1; nextTree() = ", STATE, "listTrees() = 3; makeRing(1) = 0;",
                 "nextTree() = 3; clear(3) = 3; nextTree() = ", STATE);
-        Sparsewalk walk = new Sparsewalk();
-        walk.clear(7);
-        for (int one = 0; one < 7; one++) {
-            for (int other = 0; other < one; other++) {
-                walk.setWeight(one, other, 4);
+        int[] counts = {0, 0, 1, 3, 16, 125, 1296, 16807};
+        for (int places = 2; places <= 7; places++) {
+            StringBuilder calls = new StringBuilder(Nets.full(places, 4));
+            calls.append("countTrees() = ").append((long) counts[places] << 2 * (places - 1));
+            calls.append("; listTrees() = ").append(counts[places]).append("; ");
+            List<Integer> trees = allTrees(places);
+            checks.due("as many sets of edges", trees.size(), counts[places]);
+            // An object is used for so many calls alone.
+            for (int tree : trees.subList(0, Math.min(trees.size(), 480))) {
+                calls.append("nextTree() = ").append(tree).append("; ");
             }
+            due("16, 19, 20, all edges of " + places, calls.toString(),
+                    places < 6 ? "nextTree() = " + ELEMENT : "", "isSound() = true");
         }
-        checks.due("16, all edges of 7 places", walk.countTrees(), 16807L * 4096);
-        checks.due("19, all edges of 7 places", walk.listTrees(), 16807);
-        List<Integer> trees = allTrees(7);
-        checks.due("as many sets of edges", trees.size(), 16807);
-        for (int tree : trees) {
-            checks.due("20, all edges of 7 places", walk.nextTree(), tree);
-        }
-        Runs.due(checks, "20, none left", walk, "nextTree() = ", ELEMENT, "isSound() = true");
     }
 
     private static List<Integer> allTrees(int places) {
         List<Integer> trees = new ArrayList<>();
-        int pairs = places * (places - 1) / 2;
-        for (int set = 0; set < 1 << pairs; set++) {
+        for (int set = 0; set < 1 << Nets.pairs(places); set++) {
             if (Integer.bitCount(set) == places - 1 && joins(set, places)) {
                 trees.add(set);
             }
@@ -358,15 +356,8 @@ public final class PromiseTest {
                 "standsFor(1) = false; standsFor(2) = true; choose(0, 1, 3) = 2; choose(1, 2, 3) = 2;",
                 "standsFor(2) = false; standsFor(3) = true; choose(0, 1, 4) = 3; choose(1, 2, 4) = 3;",
                 "standsFor(3) = false");
-        Sparsewalk walk = new Sparsewalk();
-        walk.clear(7);
-        for (int one = 0; one < 7; one++) {
-            for (int other = 0; other < one; other++) {
-                walk.setWeight(one, other, 4);
-                walk.choose(one, other, 12);
-            }
-        }
-        Runs.due(checks, "37, all edges of 7 places", walk, "standsFor(3) = true; standsFor(2) = false;",
+        due("37, all edges of 7 places", Nets.full(7, 4), Nets.allChosen(7, 12),
+                "standsFor(3) = true; standsFor(2) = false;",
                 "setWeight(5, 6, 3) = 4; standsFor(3) = false; choose(5, 6, 10) = 12;",
                 "standsFor(3) = false; choose(5, 6, 9) = 10; standsFor(3) = true");
     }
@@ -395,15 +386,8 @@ public final class PromiseTest {
                 "getCoefficient(0) = 0; getCoefficient(4) = ", ARGUMENT, "getCoefficient(-1) = ", ARGUMENT,
                 "clear(4) = 3; getCoefficient(4) = 1; getCoefficient(3) = 0; getCoefficient(1) = 0;",
                 "setWeight(0, 1, 4) = 0; getCoefficient(3) = -8; getCoefficient(2) = 0");
-        Sparsewalk walk = new Sparsewalk();
-        walk.clear(7);
-        for (int one = 0; one < 7; one++) {
-            for (int other = 0; other < one; other++) {
-                walk.setWeight(one, other, 4);
-            }
-        }
         // All values but 0 are 28.
-        Runs.due(checks, "41, 42, all edges of 7 places", walk, "countAbove(0) = 6;",
+        due("41, 42, all edges of 7 places", Nets.full(7, 4), "countAbove(0) = 6;",
                 "countAbove(27) = 6; countAbove(28) = 0; getCoefficient(7) = 1;",
                 "getCoefficient(6) = -168; getCoefficient(5) = 11760; getCoefficient(1) = 481890304;",
                 "getCoefficient(0) = 0; getTime(0, 6, true) = 6; getTime(0, 6, false) = 1");
