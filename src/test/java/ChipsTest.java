@@ -105,6 +105,16 @@ public final class ChipsTest {
                 "setChips(3, 99); fire(1) =", Runs.OPERATION, "getChips(2) = 0; setChips(3, 0);",
                 "setChips(2, 99); fire(1) =", Runs.OPERATION, "getChips(3) = 0; setChips(2, 98);",
                 "fire(1) = 3; getChips(3) = 1; getChips(2) = 99");
+        for (int places = 3; places <= 7; places++) {
+            for (int full = 0; full < places; full++) {
+                int sink = full == 0 ? places - 1 : 0;
+                int giver = full == 1 ? 2 : 1;
+                String state = Nets.full(places, 1) + "setSink(" + sink + "); " + chips(giver, places);
+                due("each place but the sink", state, chips(full, 99), "fire(" + giver + ") =",
+                        Runs.OPERATION, chips(full, 98), "fire(" + giver + ") = 1;",
+                        "getChips(" + full + ") = 99");
+            }
+        }
         due("no neighbour", Nets.line(4, 1), "setChips(3, 99); setChips(1, 2); fire(1) = 0; getChips(3) = 99");
         due("the sink has no bound", Nets.line(3, 4), "setChips(0, 99); setChips(1, 8); fire(1) = 0");
     }

@@ -24,7 +24,7 @@ public final class ModelTest {
         "nextTree", "nextTree", "nextTree", "nextTree", "nextTree", "nextTree", "drawTree p",
         "getDrawn", "getDrawn", "seed 1-2147483646", "putWalker b p", "putWalker b p",
         "walk 1-200", "walk 1-3", "getWalker b", "setChips p 0-99", "setChips p 0-9",
-        "setChips p 0-9", "getChips p", "getChips p", "setSink p", "fire p", "fire p", "settle",
+        "setChips p 0-9", "setChips p 95-99", "getChips p", "getChips p", "setSink p", "fire p", "fire p", "settle",
         "settle", "getState", "getState", "countRecurrent", "turn 1-200", "turn 1-3", "getRotor p",
         "getRotor p", "choose p p 0-12", "choose p p 0-4", "choose p p 0-4", "standsFor 1-3",
         "standsFor 1-3", "getCut 1-126", "getShare b", "getBest", "countAbove -1-60",
