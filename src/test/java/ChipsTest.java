@@ -187,6 +187,15 @@ public final class ChipsTest {
     private void recurrentStates() {
         due("a triangle", TRIANGLE, "getState() = 's'; setChips(1, 1); getState() = 'r'; setChips(2, 1);",
                 "getState() = 'r'; setChips(1, 0); getState() = 'r'; setChips(1, 2); getState() = 'u'");
+        for (int places = 3; places <= 7; places++) {
+            for (int centre = 0; centre < places; centre++) {
+                int sink = centre == 0 ? 1 : 0;
+                due("one place alone is not the same", Nets.star(places, centre, 1),
+                        "setSink(" + sink + "); getState() = 's';", chips(centre, places - 3),
+                        "getState() = 's';", chips(centre, places - 2),
+                        "getState() = 'r'");
+            }
+        }
         due("whatever the sink has", TRIANGLE, "setChips(0, 99); getState() = 's'; setChips(1, 1);",
                 "getState() = 'r'; getChips(0) = 99; getChips(1) = 1; getChips(2) = 0");
         due("by the weight to the sink", "clear(3); setWeight(0, 1, 2); setWeight(1, 2, 1);",

@@ -57,11 +57,14 @@ public final class GraphsTest {
                 calls.append(") = ").append(Runs.ELEMENT);
                 for (int other = one + 1; other < places; other++) {
                     String pair = "(" + one + ", " + other;
+                    String back = "(" + other + ", " + one;
                     calls.append("getWeight").append(pair).append(") = 0; ");
+                    calls.append("getWeight").append(back).append(") = 0; ");
+                    calls.append("choose").append(back).append(", 0) = 0; ");
                     calls.append("choose").append(pair).append(", 0) = 0; ");
                 }
             }
-            due("no weight, no chips and no choice at first", calls.toString());
+            due("no weight, no chips and no choice at first", calls.toString(), "standsFor(1) = true");
         }
     }
 
