@@ -138,6 +138,29 @@ public final class FaceTest {
             checks.due(type + " is static", Modifier.isStatic(modifiers), true);
             checks.due(type + " is public", Modifier.isPublic(modifiers), false);
             checkFields(checks, type);
+            checkParameters(checks, type);
+        }
+    }
+
+    private static void checkParameters(Checks checks, Class<?> type) {
+        for (Method method : type.getDeclaredMethods()) {
+            checks.due("few parameters of " + method, method.getParameterCount() <= 7, true);
+        }
+    }
+
+    /** A method begins and ends at its own depth, so that its lines can be counted. */
+    private static void checkLengths(Checks checks, String code) {
+        String[] lines = code.split("\n");
+        for (int first = 0; first < lines.length; first++) {
+            String start = lines[first].replaceAll("\\S.*", "");
+            boolean isMethod = (start.length() == 4 || start.length() == 8)
+                    && lines[first].contains("(") && lines[first].endsWith("{")
+                    && !lines[first].matches(" *(if|for|while|switch|do|else)\\b.*");
+            int last = first;
+            while (isMethod && last < lines.length && !lines[last].equals(start + "}")) {
+                last++;
+            }
+            checks.due("a short method: " + lines[first], last - first <= 60, true);
         }
     }
 
@@ -162,6 +185,7 @@ public final class FaceTest {
         for (String word : RULED_OUT) {
             checks.due("the code has " + word, Pattern.compile(word).matcher(code).find(), false);
         }
+        checkLengths(checks, code);
         int imports = 0;
         for (String line : code.split("\n")) {
             if (line.startsWith("import ")) {
