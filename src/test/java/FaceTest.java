@@ -109,6 +109,9 @@ public final class FaceTest {
             openNames.add(method.getName());
         }
         checks.due("the face", open.toString(), new TreeSet<>(Arrays.asList(FACE)).toString());
+        for (Class<?> type : Sparsewalk.class.getDeclaredClasses()) {
+            hidden.addAll(Arrays.asList(type.getDeclaredMethods()));
+        }
         for (Method method : hidden) {
             checks.due("a public name for " + method, openNames.contains(method.getName()), false);
         }

@@ -24,8 +24,8 @@ public final class ModelTest {
         "nextTree", "nextTree", "nextTree", "nextTree", "nextTree", "nextTree", "drawTree p",
         "getDrawn", "getDrawn", "seed 1-2147483646", "putWalker b p", "putWalker b p",
         "walk 1-200", "walk 1-3", "getWalker b", "setChips p 0-99", "setChips p 0-9",
-        "setChips p 0-9", "setChips p 95-99", "getChips p", "getChips p", "setSink p", "fire p", "fire p", "settle",
-        "settle", "getState", "getState", "countRecurrent", "turn 1-200", "turn 1-3", "getRotor p",
+        "setChips p 0-9", "setChips p 95-99", "getChips p", "getChips p", "setSink p", "fire p",
+        "fire p", "settle", "settle", "getState", "getState", "countRecurrent", "turn 1-200", "turn 1-3", "getRotor p",
         "getRotor p", "choose p p 0-12", "choose p p 0-4", "choose p p 0-4", "standsFor 1-3",
         "standsFor 1-3", "getCut 1-126", "getShare b", "getBest", "countAbove -1-60",
         "countAbove 0-12", "getCoefficient 0-7", "getMeanDegree", "getOhms p p", "checksum",
@@ -38,6 +38,7 @@ public final class ModelTest {
     private final Sparsewalk real = new Sparsewalk();
     private final PlainModel plain = new PlainModel();
     private int places = 4;
+    private int calls;
 
     private ModelTest(int run) {
         this.run = "run " + run + ": ";
@@ -64,15 +65,14 @@ public final class ModelTest {
             chooseLikeGraph();
         }
         boolean isSteady = random.nextBoolean();
-        for (int call = 0; call < CALLS - 60; call++) {
+        while (calls < CALLS) {
+            String drawn = CALLS_DRAWN[random.nextInt(CALLS_DRAWN.length)];
             if (random.nextInt(200) == 0) {
                 clear(random.nextInt(9));
+            } else if (!isSteady || calls < 110 || !drawn.startsWith("setWeight")
+                    || random.nextInt(8) == 0) {
+                draw(drawn);
             }
-            String drawn = CALLS_DRAWN[random.nextInt(CALLS_DRAWN.length)];
-            if (isSteady && call > 60 && drawn.startsWith("setWeight") && random.nextInt(8) > 0) {
-                continue;
-            }
-            draw(drawn);
         }
     }
 
@@ -130,6 +130,7 @@ public final class ModelTest {
     }
 
     private void both(String name, Object... arguments) throws Exception {
+        calls++;
         Class<?>[] types = new Class<?>[arguments.length];
         for (int number = 0; number < types.length; number++) {
             types[number] = arguments[number] instanceof Boolean ? boolean.class : int.class;
