@@ -57,6 +57,9 @@ public final class PromiseTest {
                 "countAbove(0) = 3; getCoefficient(1) = -4");
         due("example 5", "setWeight(0, 1, 1) = 0; setWeight(0, 2, 1) = 0; getRotor(0) = 1;",
                 "turn(1) = 2; turn(1) = 0; getRotor(0) = 2; turn(3) = 2");
+        due("the example of README.md", TRIANGLE, "getResistance(0, 1, true) = 2;",
+                "getResistance(0, 1, false) = 3; listTrees() = 3; nextTree() = 3;",
+                "setWeight(0, 1, 2) = 1; nextTree() = ", STATE, "undo() = 3");
     }
 
     private void graphs() {
